@@ -61,11 +61,11 @@ public final class DecisionArrays {
 
     public DecisionArrays() {
         store = new Store();
-        likeness = new Likeness(store);
+        likeness = new Likeness();
         choices = new Choices();
-        keys = new long[MOST_LENGTH];
-        laws = new Laws(keys);
+        laws = new Laws();
         snapshots = new ArrayList<>();
+        keys = new long[MOST_LENGTH];
         marks = 0;
         latest = 0;
     }
@@ -330,14 +330,14 @@ public final class DecisionArrays {
         if (store.find(a) == null || store.find(b) == null) {
             return refused(NO_ARRAY);
         }
-        return answered(likeness.isAlike(a, b) ? 1 : 0);
+        return answered(likeness.isAlike(store, a, b) ? 1 : 0);
     }
 
     public int hash(int a) {
         if (store.find(a) == null) {
             return (int) zeroFor(NO_ARRAY);
         }
-        return answered(likeness.hashed(a));
+        return answered(likeness.hashed(store, a));
     }
 
     // ---- decisions
@@ -460,7 +460,7 @@ public final class DecisionArrays {
     }
 
     public long score() {
-        return laws.total(0);
+        return laws.total(0, keys);
     }
 
     public int best() {
@@ -470,10 +470,10 @@ public final class DecisionArrays {
         }
         choices.takeFirst();
         laws.tieTo(choices);
-        long least = laws.total(0);
+        long least = laws.total(0, keys);
         choices.keep();
         for (int way = 1; way < ways; way++) {
-            long now = laws.total(choices.takeNext());
+            long now = laws.total(choices.takeNext(), keys);
             if (now < least) {
                 least = now;
                 choices.keep();
@@ -996,26 +996,24 @@ public final class DecisionArrays {
 
     /** HASHES and likeness through ROWS; each is found once a call, as ROWS may be shared many times over. */
     private static final class Likeness {
-        private final Store store;
         private final int[] hashes;
         private final boolean[] known;
         private final long[] alike;
 
-        Likeness(Store store) {
-            this.store = store;
+        Likeness() {
             hashes = new int[MOST_ARRAYS];
             known = new boolean[MOST_ARRAYS];
             alike = new long[MOST_ARRAYS];
         }
 
-        int hashed(int a) {
+        int hashed(Store store, int a) {
             for (int i = 0; i < MOST_ARRAYS; i++) {
                 known[i] = false;
             }
-            return hashBelow(a, MOST_DEPTH);
+            return hashBelow(store, a, MOST_DEPTH);
         }
 
-        private int hashBelow(int a, int levels) {
+        private int hashBelow(Store store, int a, int levels) {
             Cells cells = store.find(a);
             if (cells == null || levels < 1) {
                 return 0;
@@ -1026,7 +1024,7 @@ public final class DecisionArrays {
             int result = 1;
             for (int i = 0; i < cells.length; i++) {
                 long bits = cells.bits[i];
-                int one = cells.depth > 1 ? hashBelow((int) bits, levels - 1) : hashOfValue(cells.kind, bits);
+                int one = cells.depth > 1 ? hashBelow(store, (int) bits, levels - 1) : hashOfValue(cells.kind, bits);
                 result = 31 * result + one;
             }
             hashes[a] = result;
@@ -1041,15 +1039,15 @@ public final class DecisionArrays {
             return kind == LONG || kind == DOUBLE ? (int) (bits ^ (bits >>> 32)) : (int) bits;
         }
 
-        boolean isAlike(int a, int b) {
+        boolean isAlike(Store store, int a, int b) {
             for (int i = 0; i < MOST_ARRAYS; i++) {
                 alike[i] = 0;
             }
-            return alikeBelow(a, b, MOST_DEPTH);
+            return alikeBelow(store, a, b, MOST_DEPTH);
         }
 
         /** Only pairs that are alike are kept, as bits: the first pair that is not ends the whole. */
-        private boolean alikeBelow(int a, int b, int levels) {
+        private boolean alikeBelow(Store store, int a, int b, int levels) {
             Cells one = store.find(a);
             Cells other = store.find(b);
             if (one == null || other == null || levels < 1) {
@@ -1064,7 +1062,7 @@ public final class DecisionArrays {
             for (int i = 0; i < one.length; i++) {
                 long x = one.bits[i];
                 long y = other.bits[i];
-                if (one.depth > 1 ? !alikeBelow((int) x, (int) y, levels - 1) : x != y) {
+                if (one.depth > 1 ? !alikeBelow(store, (int) x, (int) y, levels - 1) : x != y) {
                     return false;
                 }
             }
@@ -1438,11 +1436,9 @@ public final class DecisionArrays {
     /** All RULES. */
     private static final class Laws {
         private final ArrayList<Law> all;
-        private final long[] keys;
 
-        Laws(long[] keys) {
-            this.all = new ArrayList<>();
-            this.keys = keys;
+        Laws() {
+            all = new ArrayList<>();
         }
 
         int size() {
@@ -1466,7 +1462,7 @@ public final class DecisionArrays {
         }
 
         /** THE SCORE; what lies in no DECISION from this one on is not judged anew, but from 0 on all is. */
-        long total(int decision) {
+        long total(int decision, long[] keys) {
             long sum = 0;
             for (int r = 0; r < all.size(); r++) {
                 Law law = all.get(r);
@@ -1493,8 +1489,10 @@ public final class DecisionArrays {
 
         void take(Store store) {
             if (bits.length < store.elements) {
-                bits = new long[store.elements];
-                pinned = new boolean[store.elements];
+                // twice as many as needed, so that few rows are made however often arrays come between MARKS
+                int room = Math.min(2 * store.elements, MOST_ELEMENTS);
+                bits = new long[room];
+                pinned = new boolean[room];
             }
             arrays = store.size();
             int at = 0;
