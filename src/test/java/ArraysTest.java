@@ -185,6 +185,9 @@ public final class ArraysTest {
         check.refused(y, y.grid(4, 2, 20, 200, 0, 0), 8);
         check.fine(y, y.grid(4, 2, 20, 199, 0, 0), 0);
         check.due(y.count(1), 4000);
+        DecisionArrays z = new DecisionArrays();
+        check.fine(z, z.grid(4, 1, 200, 0, 0, 0), 0);
+        check.fine(z, z.grid(4, 2, 2, 200, 0, 0), 1);
     }
 
     private static void about() {
@@ -197,6 +200,8 @@ public final class ArraysTest {
         x.pin(1, 1, 2, 0, 0, true);
         check.fine(x, x.about(0, 5), 2);
         check.fine(x, x.about(1, 5), 0);
+        check.fine(x, x.about(0, 4), 0);
+        x.write(0, 1, 0, 0, 0, 5, -1);
         check.fine(x, x.about(0, 4), 0);
         check.fine(x, x.about(1, 4), 2);
         check.fine(x, x.about(1, 3), -1);

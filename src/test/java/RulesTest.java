@@ -279,6 +279,10 @@ public final class RulesTest {
         x.pin(a, 0, 0, 0, 0, true);
         check.fine(x, x.best(), 1);
         check.due(x.score(), 16);
+        x.candidate(2, 4);
+        check.fine(x, x.best(), 1);
+        check.due(x.read(a, 2, 0, 0, 0, 4), 4);
+        check.due(x.score(), 13);
     }
 
     private static void bestBounds() {

@@ -10,6 +10,8 @@ public final class WholeArraysTest {
         copy();
         deep();
         deepOfShared();
+        deepOfFour();
+        deepToTheEnd();
         sort();
         sortOfKinds();
         search();
@@ -263,6 +265,48 @@ public final class WholeArraysTest {
         check.due(z.count(1), 220 + 20 + 18 * 200);
     }
 
+    private static void deepOfFour() {
+        check.promise("19 deep, DEPTH 4");
+        DecisionArrays x = new DecisionArrays();
+        x.grid(5, 4, 2, 1, 2, 3);
+        check.due(x.count(0), 9);
+        check.due(x.count(1), 20);
+        x.write(0, 1, 0, 1, 2, 5, 77);
+        x.setRow(1, 0, -1);
+        check.fine(x, x.deep(0), 9);
+        check.due(x.count(0), 15);
+        check.due(x.count(1), 20 + 2 + 2 + 2 + 6);
+        check.due(x.same(0, 9), 1);
+        check.due(x.read(9, 1, 0, 1, 2, 5), 77);
+        check.due(x.place(9, 1, 0, 1, 2), 14002);
+        check.refused(x, x.place(9, 0, 0, 0, 0), 3);
+        x.write(9, 1, 0, 1, 2, 5, 78);
+        check.due(x.read(0, 1, 0, 1, 2, 5), 77);
+        DecisionArrays y = new DecisionArrays();
+        y.grid(5, 4, 1, 1, 28, 1);
+        check.due(y.count(0), 31);
+        check.refused(y, y.deep(0), 8);
+        y.setRow(2, 0, -1);
+        check.refused(y, y.deep(0), 8);
+        y.setRow(2, 1, -1);
+        check.fine(y, y.deep(0), 31);
+        check.due(y.count(0), 60);
+    }
+
+    /** To the last element: 2000 and 2000 more. */
+    private static void deepToTheEnd() {
+        check.promise("19 deep, 4000 elements");
+        DecisionArrays x = new DecisionArrays();
+        x.grid(5, 2, 10, 199, 0, 0);
+        check.fine(x, x.deep(0), 11);
+        check.due(x.count(1), 4000);
+        DecisionArrays y = new DecisionArrays();
+        y.grid(5, 2, 10, 199, 0, 0);
+        y.array(5, 1);
+        check.refused(y, y.deep(0), 8);
+        check.due(y.count(1), 2001);
+    }
+
     private static void sort() {
         check.promise("20 sort");
         DecisionArrays x = new DecisionArrays();
@@ -385,6 +429,9 @@ public final class WholeArraysTest {
         check.fine(x, x.same(6, 5), 0);
         x.setRow(6, 0, 1);
         check.fine(x, x.same(5, 6), 1);
+        x.write(1, 0, 0, 0, 0, 4, 8);
+        check.fine(x, x.same(5, 6), 0);
+        x.write(1, 0, 0, 0, 0, 4, 1);
         x.setRow(6, 0, 3);
         check.fine(x, x.same(5, 6), 0);
         int empty = x.rows(0, 0);
@@ -414,6 +461,10 @@ public final class WholeArraysTest {
         x.setRow(rows, 2, 4);
         int[] row = {-70000, 7};
         check.fine(x, x.hash(rows), java.util.Arrays.deepHashCode(new int[][] {row, null, row}));
+        x.write(4, 0, 0, 0, 0, 4, 1);
+        check.fine(x, x.hash(4), java.util.Arrays.hashCode(new int[] {1, 7}));
+        x.write(0, 0, 0, 0, 0, 0, 0);
+        check.fine(x, x.hash(0), java.util.Arrays.hashCode(new boolean[] {false, false}));
         check.silent(x, x.hash(99), 0, 5);
         check.silent(x, x.hash(-1), 0, 5);
     }
