@@ -292,7 +292,7 @@ public final class DecisionArrays {
         if (!store.deepCopyFits(a)) {
             return refused(BOUND);
         }
-        return answered(store.addDeepCopy(a, MOST_DEPTH));
+        return answered(store.addDeepCopy(a));
     }
 
     public int sort(int a, int from, int to) {
@@ -951,10 +951,14 @@ public final class DecisionArrays {
         }
 
         int addGrid(int kind, int depth) {
+            return gridBelow(kind, depth);
+        }
+
+        private int gridBelow(int kind, int depth) {
             int made = add(kind, depth, ANY_CLASS, gridLengths[depth]);
             Cells cells = arrays.get(made);
             for (int i = 0; depth > 1 && i < cells.length; i++) {
-                cells.bits[i] = addGrid(kind, depth - 1);
+                cells.bits[i] = gridBelow(kind, depth - 1);
             }
             return made;
         }
@@ -979,7 +983,11 @@ public final class DecisionArrays {
             }
         }
 
-        int addDeepCopy(int a, int levels) {
+        int addDeepCopy(int a) {
+            return copyBelow(a, MOST_DEPTH);
+        }
+
+        private int copyBelow(int a, int levels) {
             Cells source = find(a);
             if (source == null || levels < 1) {
                 return NULL;
@@ -988,7 +996,7 @@ public final class DecisionArrays {
             Cells target = arrays.get(made);
             for (int i = 0; i < source.length; i++) {
                 long below = source.bits[i];
-                target.bits[i] = source.depth > 1 ? addDeepCopy((int) below, levels - 1) : below;
+                target.bits[i] = source.depth > 1 ? copyBelow((int) below, levels - 1) : below;
             }
             return made;
         }

@@ -34,13 +34,25 @@ final class Check {
         due(x.code(), code);
     }
 
+    /** Two texts that must be the same. */
+    void alike(String got, String want) {
+        seen++;
+        if (!got.equals(want)) {
+            wrong++;
+            System.out.println(where() + promise + ": there is\n" + got + "\ndue is\n" + want);
+        }
+    }
+
+    /** The lines of the tests that led here, the inmost one first. */
     private static String where() {
+        StringBuilder lines = new StringBuilder();
         for (StackTraceElement frame : new Throwable().getStackTrace()) {
-            if (!frame.getClassName().equals("Check")) {
-                return frame.getFileName() + ":" + frame.getLineNumber() + " ";
+            String file = frame.getFileName();
+            if (file != null && file.endsWith("Test.java")) {
+                lines.append(lines.length() == 0 ? file : "").append(':').append(frame.getLineNumber());
             }
         }
-        return "";
+        return lines.append(' ').toString();
     }
 
     void end() {

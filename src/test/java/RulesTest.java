@@ -21,30 +21,6 @@ public final class RulesTest {
         check.end();
     }
 
-    private static int made(DecisionArrays x, int kind, long... values) {
-        int a = x.array(kind, values.length);
-        for (int i = 0; i < values.length; i++) {
-            x.write(a, i, 0, 0, 0, kind, values[i]);
-        }
-        return a;
-    }
-
-    private static int doubles(DecisionArrays x, double... values) {
-        int a = x.array(7, values.length);
-        for (int i = 0; i < values.length; i++) {
-            x.write(a, i, 0, 0, 0, 7, Double.doubleToLongBits(values[i]));
-        }
-        return a;
-    }
-
-    private static int floats(DecisionArrays x, float... values) {
-        int a = x.array(6, values.length);
-        for (int i = 0; i < values.length; i++) {
-            x.write(a, i, 0, 0, 0, 6, Float.floatToIntBits(values[i]));
-        }
-        return a;
-    }
-
     private static long amount(DecisionArrays x, int sort, int a, long low, long high) {
         int r = x.rule(sort, a, 1, low, high);
         check.due(x.code(), 0);
@@ -82,7 +58,7 @@ public final class RulesTest {
     private static void sum() {
         check.promise("31 amount, SUM");
         DecisionArrays x = new DecisionArrays();
-        int a = made(x, 4, 5, -3, 10);
+        int a = Make.of(x, 4, 5, -3, 10);
         check.due(amount(x, 0, a, 12, 12), 0);
         check.due(amount(x, 0, a, 15, 20), 3);
         check.due(amount(x, 0, a, 0, 7), 5);
@@ -92,13 +68,13 @@ public final class RulesTest {
         check.due(amount(x, 0, a, 0, Long.MIN_VALUE), MOST);
         check.due(amount(x, 0, a, 12 + MOST, Long.MAX_VALUE), MOST);
         check.due(amount(x, 0, a, 11 + MOST, Long.MAX_VALUE), MOST - 1);
-        int b = made(x, 5, Long.MAX_VALUE, 2);
+        int b = Make.of(x, 5, Long.MAX_VALUE, 2);
         check.due(amount(x, 0, b, Long.MIN_VALUE + 4, 0), 3);
-        check.due(amount(x, 0, made(x, 0, 1, 1, 0), 5, 5), 3);
-        check.due(amount(x, 0, made(x, 8, 1000, 0, 1), 0, 0), 1001);
+        check.due(amount(x, 0, Make.of(x, 0, 1, 1, 0), 5, 5), 3);
+        check.due(amount(x, 0, Make.of(x, 8, 1000, 0, 1), 0, 0), 1001);
         DecisionArrays y = new DecisionArrays();
         check.due(amount(y, 0, y.array(4, 0), 2, 5), 2);
-        check.due(amount(y, 0, made(y, 1, 65535), 0, 65530), 5);
+        check.due(amount(y, 0, Make.of(y, 1, 65535), 0, 65530), 5);
     }
 
     private static void sumOfReals() {
@@ -109,85 +85,85 @@ public final class RulesTest {
         for (double real : reals) {
             DecisionArrays x = new DecisionArrays();
             long whole = (long) real;
-            int a = doubles(x, real);
+            int a = Make.doubles(x, real);
             check.due(amount(x, 0, a, whole, whole), 0);
             check.due(amount(x, 0, a, whole + 1, whole + 1), whole == Long.MAX_VALUE ? MOST : 1);
             float small = (float) real;
-            int b = floats(x, small);
+            int b = Make.floats(x, small);
             check.due(amount(x, 0, b, (long) small, (long) small), 0);
             check.due(amount(x, 0, b, Long.MIN_VALUE, (long) small - 1), (long) small == Long.MIN_VALUE ? 0 : 1);
         }
         DecisionArrays x = new DecisionArrays();
-        check.due(amount(x, 0, doubles(x, 0.9, 0.9, 2.9), 0, 0), 2);
+        check.due(amount(x, 0, Make.doubles(x, 0.9, 0.9, 2.9), 0, 0), 2);
     }
 
     private static void unlike() {
         check.promise("31 amount, UNLIKE");
         DecisionArrays x = new DecisionArrays();
-        check.due(amount(x, 1, made(x, 4, 1, 2, 1, 1, 2, 7), 0, 0), 4);
-        check.due(amount(x, 1, floats(x, 0f, -0f, Float.NaN, Float.NaN, 0f, 1f), 0, 0), 3);
-        check.due(amount(x, 1, doubles(x, 0, -0.0, Double.NaN, Double.NaN, 1, 1), 0, 0), 2);
-        check.due(amount(x, 1, made(x, 8, 0, 0, 5, 12), 0, 0), 1);
-        check.due(amount(x, 1, made(x, 5, -1, 0, -1), 0, 0), 1);
-        check.due(amount(x, 1, made(x, 4, -1, 0), 0, 0), 0);
+        check.due(amount(x, 1, Make.of(x, 4, 1, 2, 1, 1, 2, 7), 0, 0), 4);
+        check.due(amount(x, 1, Make.floats(x, 0f, -0f, Float.NaN, Float.NaN, 0f, 1f), 0, 0), 3);
+        check.due(amount(x, 1, Make.doubles(x, 0, -0.0, Double.NaN, Double.NaN, 1, 1), 0, 0), 2);
+        check.due(amount(x, 1, Make.of(x, 8, 0, 0, 5, 12), 0, 0), 1);
+        check.due(amount(x, 1, Make.of(x, 5, -1, 0, -1), 0, 0), 1);
+        check.due(amount(x, 1, Make.of(x, 4, -1, 0), 0, 0), 0);
         check.due(amount(x, 1, x.array(0, 200), 0, 0), 19900);
         check.due(amount(x, 1, x.array(0, 1), 0, 0), 0);
         check.due(amount(x, 1, x.array(0, 0), 0, 0), 0);
         float least = Float.MIN_VALUE;
-        check.due(amount(x, 1, floats(x, -least, 0f, -0f, -least), 0, 0), 2);
+        check.due(amount(x, 1, Make.floats(x, -least, 0f, -0f, -least), 0, 0), 2);
     }
 
     private static void rising() {
         check.promise("31 amount, RISING");
         DecisionArrays x = new DecisionArrays();
-        check.due(amount(x, 2, made(x, 4, 1, 1, 0, 5, 4, 3), 0, 0), 3);
-        check.due(amount(x, 2, doubles(x, Double.NaN, Double.POSITIVE_INFINITY, 0, -0.0, Double.NaN, Double.NaN), 0, 0), 3);
-        check.due(amount(x, 2, floats(x, Float.NEGATIVE_INFINITY, -1, -2, -0f, 0f, Float.NaN, 5), 0, 0), 2);
-        check.due(amount(x, 2, made(x, 8, 7, 0, 6), 0, 0), 1);
-        check.due(amount(x, 2, made(x, 5, Long.MAX_VALUE, Long.MIN_VALUE), 0, 0), 1);
+        check.due(amount(x, 2, Make.of(x, 4, 1, 1, 0, 5, 4, 3), 0, 0), 3);
+        check.due(amount(x, 2, Make.doubles(x, Double.NaN, Double.POSITIVE_INFINITY, 0, -0.0, Double.NaN, Double.NaN), 0, 0), 3);
+        check.due(amount(x, 2, Make.floats(x, Float.NEGATIVE_INFINITY, -1, -2, -0f, 0f, Float.NaN, 5), 0, 0), 2);
+        check.due(amount(x, 2, Make.of(x, 8, 7, 0, 6), 0, 0), 1);
+        check.due(amount(x, 2, Make.of(x, 5, Long.MAX_VALUE, Long.MIN_VALUE), 0, 0), 1);
         check.due(amount(x, 2, x.array(4, 0), 0, 0), 0);
     }
 
     private static void count() {
         check.promise("31 amount, COUNT");
         DecisionArrays x = new DecisionArrays();
-        int a = made(x, 4, 3, 3, 4);
+        int a = Make.of(x, 4, 3, 3, 4);
         check.due(amount(x, 3, a, 3, 2), 0);
         check.due(amount(x, 3, a, 3, 0), 2);
         check.due(amount(x, 3, a, 3, 5), 3);
         check.due(amount(x, 3, a, 9, -4), 4);
         check.due(amount(x, 3, a, 3, Long.MIN_VALUE), MOST);
         check.due(amount(x, 3, a, 3, Long.MAX_VALUE), MOST);
-        int b = floats(x, 0f, -0f, Float.NaN, Float.NaN);
+        int b = Make.floats(x, 0f, -0f, Float.NaN, Float.NaN);
         check.due(amount(x, 3, b, 0, 0), 1);
         check.due(amount(x, 3, b, Integer.MIN_VALUE, 0), 1);
         check.due(amount(x, 3, b, 0x7F800001L, 0), 2);
-        check.due(amount(x, 3, made(x, 8, 0, 9), 0, 0), 1);
-        int c = doubles(x, Double.NaN);
+        check.due(amount(x, 3, Make.of(x, 8, 0, 9), 0, 0), 1);
+        int c = Make.doubles(x, Double.NaN);
         check.due(amount(x, 3, c, -1, 0), 1);
     }
 
     private static void changes() {
         check.promise("31 amount, CHANGES");
         DecisionArrays x = new DecisionArrays();
-        check.due(amount(x, 4, made(x, 4, 1, 1, 2, 1, 1), 0, 0), 2);
-        check.due(amount(x, 4, doubles(x, 0, -0.0, Double.NaN, Double.NaN), 0, 0), 2);
+        check.due(amount(x, 4, Make.of(x, 4, 1, 1, 2, 1, 1), 0, 0), 2);
+        check.due(amount(x, 4, Make.doubles(x, 0, -0.0, Double.NaN, Double.NaN), 0, 0), 2);
         check.due(amount(x, 4, x.array(4, 0), 0, 0), 0);
     }
 
     private static void far() {
         check.promise("31 amount, FAR");
         DecisionArrays x = new DecisionArrays();
-        check.due(amount(x, 5, made(x, 4, 1, 5, -2, 4), 0, 0), 7);
-        check.due(amount(x, 5, made(x, 5, Long.MIN_VALUE, Long.MAX_VALUE), 0, 0), MOST);
-        check.due(amount(x, 5, made(x, 5, Long.MAX_VALUE, -1), 0, 0), MOST);
-        check.due(amount(x, 5, made(x, 4, 0, 1000000), 0, 0), MOST);
-        check.due(amount(x, 5, made(x, 4, 0, 999999), 0, 0), 999999);
-        check.due(amount(x, 5, doubles(x, 1.9, -1.9, Double.NaN), 0, 0), 2);
-        check.due(amount(x, 5, floats(x, 1.9f, 7.1f), 0, 0), 6);
-        check.due(amount(x, 5, made(x, 8, 0, 1000), 0, 0), 1000);
-        check.due(amount(x, 5, made(x, 0, 0, 1), 0, 0), 1);
-        check.due(amount(x, 5, made(x, 4, 9), 0, 0), 0);
+        check.due(amount(x, 5, Make.of(x, 4, 1, 5, -2, 4), 0, 0), 7);
+        check.due(amount(x, 5, Make.of(x, 5, Long.MIN_VALUE, Long.MAX_VALUE), 0, 0), MOST);
+        check.due(amount(x, 5, Make.of(x, 5, Long.MAX_VALUE, -1), 0, 0), MOST);
+        check.due(amount(x, 5, Make.of(x, 4, 0, 1000000), 0, 0), MOST);
+        check.due(amount(x, 5, Make.of(x, 4, 0, 999999), 0, 0), 999999);
+        check.due(amount(x, 5, Make.doubles(x, 1.9, -1.9, Double.NaN), 0, 0), 2);
+        check.due(amount(x, 5, Make.floats(x, 1.9f, 7.1f), 0, 0), 6);
+        check.due(amount(x, 5, Make.of(x, 8, 0, 1000), 0, 0), 1000);
+        check.due(amount(x, 5, Make.of(x, 0, 0, 1), 0, 0), 1);
+        check.due(amount(x, 5, Make.of(x, 4, 9), 0, 0), 0);
         check.due(amount(x, 5, x.array(4, 0), 0, 0), 0);
     }
 
@@ -195,7 +171,7 @@ public final class RulesTest {
         check.promise("32 score");
         DecisionArrays x = new DecisionArrays();
         check.due(x.score(), 0);
-        int a = made(x, 4, 3, 3, 4);
+        int a = Make.of(x, 4, 3, 3, 4);
         x.rule(1, a, 1000, 0, 0);
         check.due(x.score(), 1000);
         x.rule(4, a, -7, 0, 0);
@@ -213,7 +189,7 @@ public final class RulesTest {
     private static void best() {
         check.promise("33 best");
         DecisionArrays x = new DecisionArrays();
-        int a = made(x, 4, 0, 0, 0);
+        int a = Make.of(x, 4, 0, 0, 0);
         check.fine(x, x.best(), 1);
         for (int i = 0; i < 3; i++) {
             x.decide(a, i, 0, 0, 0);
@@ -239,7 +215,7 @@ public final class RulesTest {
     private static void bestOfSeveral() {
         check.promise("33 best, the first of several");
         DecisionArrays x = new DecisionArrays();
-        int a = made(x, 4, 9, 9);
+        int a = Make.of(x, 4, 9, 9);
         x.decide(a, 1, 0, 0, 0);
         x.decide(a, 0, 0, 0, 0);
         for (int value = 3; value >= 0; value--) {
@@ -263,7 +239,7 @@ public final class RulesTest {
     private static void bestPinned() {
         check.promise("33 best, PINNED and without CANDIDATES");
         DecisionArrays x = new DecisionArrays();
-        int a = made(x, 4, 9, 8, 7);
+        int a = Make.of(x, 4, 9, 8, 7);
         for (int i = 0; i < 3; i++) {
             x.decide(a, i, 0, 0, 0);
         }
@@ -317,9 +293,9 @@ public final class RulesTest {
     private static void bestOverArrays() {
         check.promise("33 best, several arrays");
         DecisionArrays x = new DecisionArrays();
-        int a = made(x, 4, 0, 0);
-        int b = made(x, 5, 0, 0);
-        int c = made(x, 4, 1, 1, 1);
+        int a = Make.of(x, 4, 0, 0);
+        int b = Make.of(x, 5, 0, 0);
+        int c = Make.of(x, 4, 1, 1, 1);
         x.decide(a, 0, 0, 0, 0);
         x.decide(b, 1, 0, 0, 0);
         x.decide(a, 1, 0, 0, 0);

@@ -22,15 +22,7 @@ public final class WholeArraysTest {
     }
 
     private static int ints(DecisionArrays x, long... values) {
-        return made(x, 4, values);
-    }
-
-    private static int made(DecisionArrays x, int kind, long... values) {
-        int a = x.array(kind, values.length);
-        for (int i = 0; i < values.length; i++) {
-            x.write(a, i, 0, 0, 0, kind, values[i]);
-        }
-        return a;
+        return Make.of(x, 4, values);
     }
 
     private static void holds(DecisionArrays x, int a, long... values) {
@@ -117,7 +109,7 @@ public final class WholeArraysTest {
     private static void moveThings() {
         check.promise("17 move, THINGS");
         DecisionArrays x = new DecisionArrays();
-        made(x, 8, 2, 0, 9, 3, 16);
+        Make.of(x, 8, 2, 0, 9, 3, 16);
         x.things(2, 5);
         x.things(3, 5);
         check.refused(x, x.move(0, 0, 1, 0, 5), 7);
@@ -335,13 +327,13 @@ public final class WholeArraysTest {
     private static void sortOfKinds() {
         check.promise("20 sort, kinds");
         DecisionArrays x = new DecisionArrays();
-        int flags = made(x, 0, 1, 0, 1, 0);
+        int flags = Make.of(x, 0, 1, 0, 1, 0);
         check.due(x.sort(flags, 0, 4), 2);
         holds(x, flags, 0, 0, 1, 1);
-        int things = made(x, 8, 1000, 0, 7, 6);
+        int things = Make.of(x, 8, 1000, 0, 7, 6);
         check.due(x.sort(things, 0, 4), 3);
         holds(x, things, 0, 6, 7, 1000);
-        int longs = made(x, 5, Long.MAX_VALUE, Long.MIN_VALUE, 0, -1);
+        int longs = Make.of(x, 5, Long.MAX_VALUE, Long.MIN_VALUE, 0, -1);
         x.sort(longs, 0, 4);
         holds(x, longs, Long.MIN_VALUE, -1, 0, Long.MAX_VALUE);
         double[] reals = {Double.NaN, 1.5, 0.0, -0.0, -1.5, Double.NEGATIVE_INFINITY, Double.POSITIVE_INFINITY, 4e-324};
@@ -394,7 +386,7 @@ public final class WholeArraysTest {
         check.fine(x, x.search(unsorted, 4), -104);
         check.fine(x, x.search(unsorted, 2), -102);
         check.fine(x, x.search(x.array(4, 0), 2), -100);
-        int reals = made(x, 7, Double.doubleToLongBits(-0.0), 0, Double.doubleToLongBits(2.0), 0x7FF8000000000000L);
+        int reals = Make.of(x, 7, Double.doubleToLongBits(-0.0), 0, Double.doubleToLongBits(2.0), 0x7FF8000000000000L);
         check.fine(x, x.search(reals, Long.MIN_VALUE), 0);
         check.fine(x, x.search(reals, 0), 1);
         check.fine(x, x.search(reals, -1), 3);
@@ -409,7 +401,7 @@ public final class WholeArraysTest {
         DecisionArrays x = new DecisionArrays();
         ints(x, 1, 2);
         ints(x, 1, 2);
-        made(x, 5, 1, 2);
+        Make.of(x, 5, 1, 2);
         ints(x, 1, 3);
         ints(x, 1, 2, 0);
         check.fine(x, x.same(0, 1), 1);
@@ -439,22 +431,22 @@ public final class WholeArraysTest {
         check.fine(x, x.same(empty, x.rows(empty, 0)), 0);
         check.fine(x, x.same(empty, x.rows(1, 0)), 1);
         check.fine(x, x.same(x.things(1, 2), x.array(8, 2)), 1);
-        check.fine(x, x.same(made(x, 6, 0), made(x, 6, Integer.MIN_VALUE)), 0);
-        check.fine(x, x.same(made(x, 6, 0x7FC00000L), made(x, 6, -1)), 1);
+        check.fine(x, x.same(Make.of(x, 6, 0), Make.of(x, 6, Integer.MIN_VALUE)), 0);
+        check.fine(x, x.same(Make.of(x, 6, 0x7FC00000L), Make.of(x, 6, -1)), 1);
     }
 
     private static void hash() {
         check.promise("23 hash");
         DecisionArrays x = new DecisionArrays();
-        check.fine(x, x.hash(made(x, 0, 1, 0)), java.util.Arrays.hashCode(new boolean[] {true, false}));
-        check.fine(x, x.hash(made(x, 1, 65535, 7)), java.util.Arrays.hashCode(new char[] {65535, 7}));
-        check.fine(x, x.hash(made(x, 2, -1, 7)), java.util.Arrays.hashCode(new byte[] {-1, 7}));
-        check.fine(x, x.hash(made(x, 3, -300, 7)), java.util.Arrays.hashCode(new short[] {-300, 7}));
-        check.fine(x, x.hash(made(x, 4, -70000, 7)), java.util.Arrays.hashCode(new int[] {-70000, 7}));
-        check.fine(x, x.hash(made(x, 5, -7L << 40, 7)), java.util.Arrays.hashCode(new long[] {-7L << 40, 7}));
-        check.fine(x, x.hash(made(x, 6, -1, 0x3F800000L)), java.util.Arrays.hashCode(new float[] {Float.NaN, 1f}));
-        check.fine(x, x.hash(made(x, 7, -1, 0)), java.util.Arrays.hashCode(new double[] {Double.NaN, 0}));
-        check.fine(x, x.hash(made(x, 8, 0, 1000)), java.util.Arrays.hashCode(new int[] {0, 1000}));
+        check.fine(x, x.hash(Make.of(x, 0, 1, 0)), java.util.Arrays.hashCode(new boolean[] {true, false}));
+        check.fine(x, x.hash(Make.of(x, 1, 65535, 7)), java.util.Arrays.hashCode(new char[] {65535, 7}));
+        check.fine(x, x.hash(Make.of(x, 2, -1, 7)), java.util.Arrays.hashCode(new byte[] {-1, 7}));
+        check.fine(x, x.hash(Make.of(x, 3, -300, 7)), java.util.Arrays.hashCode(new short[] {-300, 7}));
+        check.fine(x, x.hash(Make.of(x, 4, -70000, 7)), java.util.Arrays.hashCode(new int[] {-70000, 7}));
+        check.fine(x, x.hash(Make.of(x, 5, -7L << 40, 7)), java.util.Arrays.hashCode(new long[] {-7L << 40, 7}));
+        check.fine(x, x.hash(Make.of(x, 6, -1, 0x3F800000L)), java.util.Arrays.hashCode(new float[] {Float.NaN, 1f}));
+        check.fine(x, x.hash(Make.of(x, 7, -1, 0)), java.util.Arrays.hashCode(new double[] {Double.NaN, 0}));
+        check.fine(x, x.hash(Make.of(x, 8, 0, 1000)), java.util.Arrays.hashCode(new int[] {0, 1000}));
         check.fine(x, x.hash(x.array(4, 0)), 1);
         int rows = x.rows(4, 3);
         x.setRow(rows, 0, 4);
