@@ -28,12 +28,16 @@ public final class BoundsTest {
         copyLengths();
         copyRows();
         deepNumbers();
+        deepOfEachDepth();
+        deepAgain();
+        deepFourAtTheEnd();
         sortRanges();
         sortChanges();
         searchEnds();
         searchHalving();
         sameEdges();
         hashEdges();
+        throughAllDepths();
         check.end();
     }
 
@@ -555,6 +559,70 @@ public final class BoundsTest {
         holdsRows(x, 14, -1, -1);
     }
 
+    private static void deepOfEachDepth() {
+        check.promise("19 deep: new ROWS throughout, of DEPTH 1 .. 4");
+        for (int depth = 1; depth <= 4; depth++) {
+            DecisionArrays x = new DecisionArrays();
+            x.grid(4, depth, 2, 2, 2, 2);
+            int arrays = x.count(0);
+            int elements = x.count(1);
+            x.write(0, 1, 1, 1, 1, 4, 77);
+            check.fine(x, x.deep(0), arrays);
+            check.due(x.count(0), 2 * arrays);
+            check.due(x.count(1), 2 * elements);
+            check.due(x.same(0, arrays), 1);
+            check.fine(x, x.place(arrays, 1, 1, 1, 1), (2 * arrays - 1) * 1000 + 1);
+            check.due(x.read(arrays, 1, 1, 1, 1, 4), 77);
+            check.fine(x, x.write(arrays, 1, 1, 1, 1, 4, 78), 0);
+            check.due(x.read(0, 1, 1, 1, 1, 4), 77);
+            check.due(x.same(0, arrays), 0);
+        }
+    }
+
+    private static void deepAgain() {
+        check.promise("19 deep: 8, each time by what is there");
+        DecisionArrays x = new DecisionArrays();
+        x.array(4, 1);
+        for (int a = 1; a < 60; a++) {
+            check.fine(x, x.deep(0), a);
+        }
+        check.refused(x, x.deep(0), 8);
+        DecisionArrays y = new DecisionArrays();
+        y.array(4, 200);
+        for (int a = 1; a < 20; a++) {
+            check.fine(y, y.deep(0), a);
+        }
+        check.refused(y, y.deep(0), 8);
+        check.fine(y, y.array(4, 0), 20);
+        check.fine(y, y.deep(20), 21);
+        check.due(y.count(1), 4000);
+    }
+
+    /** Of DEPTH 4 the arrays below the third level count too: 31 arrays, or fewer where ROWS are null. */
+    private static void deepFourAtTheEnd() {
+        check.promise("19 deep: 8, of DEPTH 4, to the last array and element");
+        for (int rows = 27; rows >= 25; rows--) {
+            DecisionArrays x = new DecisionArrays();
+            x.grid(4, 4, 1, 1, 28, 1);
+            for (int i = rows; i < 28; i++) {
+                x.setRow(2, i, -1);
+            }
+            boolean fits = 31 + 3 + rows <= 60;
+            check.due(x.deep(0), fits ? 31 : -8);
+            check.due(x.count(0), fits ? 34 + rows : 31);
+        }
+        for (int last = 1; last <= 3; last++) {
+            DecisionArrays x = new DecisionArrays();
+            x.grid(4, 4, 1, 1, 10, 198);
+            x.array(4, last);
+            int elements = 12 + 1980;
+            boolean fits = elements * 2 + 14 + last <= 4000;
+            x.array(4, 14);
+            check.due(x.deep(0), fits ? 15 : -8);
+            check.due(x.count(1), (fits ? 2 : 1) * elements + 14 + last);
+        }
+    }
+
     private static void sortRanges() {
         check.promise("20 sort: places from .. to - 1, and PINS beside them");
         for (int from = -1; from <= 5; from++) {
@@ -696,5 +764,34 @@ public final class BoundsTest {
         int deep = x.rows(rows, 1);
         x.setRow(deep, 0, rows);
         check.fine(x, x.hash(deep), 31 + (31 * 31 + one) * 31);
+    }
+
+    /** One element below three levels of ROWS, and a null at each level. */
+    private static void throughAllDepths() {
+        check.promise("22 same, 23 hash: all through");
+        DecisionArrays x = new DecisionArrays();
+        x.grid(5, 4, 2, 2, 2, 2);
+        int twin = x.deep(0);
+        long[][][][] values = new long[2][2][2][2];
+        check.fine(x, x.hash(0), java.util.Arrays.deepHashCode(values));
+        for (int i = 0; i < 16; i++) {
+            x.write(0, i / 8, i / 4 % 2, i / 2 % 2, i % 2, 5, 1L << 4 * i);
+            values[i / 8][i / 4 % 2][i / 2 % 2][i % 2] = 1L << 4 * i;
+            check.fine(x, x.hash(0), java.util.Arrays.deepHashCode(values));
+            check.fine(x, x.same(0, twin), 0);
+            x.write(twin, i / 8, i / 4 % 2, i / 2 % 2, i % 2, 5, 1L << 4 * i);
+            check.fine(x, x.same(0, twin), 1);
+        }
+        for (int level = 2; level >= 0; level--) {
+            x.setRow(level, 1, -1);
+            check.fine(x, x.same(0, twin), 0);
+            check.fine(x, x.same(twin, 0), 0);
+            x.setRow(twin + level, 1, -1);
+            check.fine(x, x.same(0, twin), 1);
+        }
+        values[0][0][1] = null;
+        values[0][1] = null;
+        values[1] = null;
+        check.fine(x, x.hash(0), java.util.Arrays.deepHashCode(values));
     }
 }

@@ -32,6 +32,8 @@ public final class ChoiceBoundsTest {
         waysUpToMost();
         waysBeyond();
         bestIsFirst();
+        bestOfEachWay();
+        bestOnceMore();
         bestOfOnes();
         bestLeavesPinned();
         eightMarks();
@@ -628,6 +630,47 @@ public final class ChoiceBoundsTest {
         check.due(at(x, a, 2), 2);
         check.due(at(x, a, 0), 1);
         check.due(at(x, a, 1), 0);
+    }
+
+    /** Three arrays of one element each: each way in turn is the only one that no RULE finds fault with. */
+    private static void bestOfEachWay() {
+        check.promise("33 best: of all ways, whichever it is");
+        for (int way = 0; way < 24; way++) {
+            int[] wanted = {way / 12, way / 4 % 3, way % 4};
+            DecisionArrays x = new DecisionArrays();
+            for (int a = 0; a < 3; a++) {
+                x.array(4, 1);
+                x.decide(a, 0, 0, 0, 0);
+                x.span(a, 0, 1 + a, 1);
+                x.rule(3, a, 1, wanted[a], 1);
+            }
+            check.fine(x, x.best(), 24);
+            check.due(x.score(), 0);
+            for (int a = 0; a < 3; a++) {
+                check.due(at(x, a, 0), wanted[a]);
+            }
+        }
+    }
+
+    private static void bestOnceMore() {
+        check.promise("33 best: what an earlier one chose does not count");
+        DecisionArrays x = new DecisionArrays();
+        int a = x.array(4, 2);
+        Make.decisions(x, a, 2);
+        x.span(0, 1, 3, 1);
+        x.span(1, 1, 3, 1);
+        x.rule(0, a, 1, 6, 6);
+        check.fine(x, x.best(), 9);
+        check.due(at(x, a, 0), 3);
+        x.rule(0, a, 1, 0, 0);
+        check.fine(x, x.best(), 9);
+        check.due(at(x, a, 0), 1);
+        check.due(at(x, a, 1), 1);
+        x.candidate(1, 4);
+        x.rule(0, a, 1, 7, 7);
+        check.fine(x, x.best(), 12);
+        check.due(at(x, a, 0), 2);
+        check.due(at(x, a, 1), 4);
     }
 
     private static void bestOfOnes() {

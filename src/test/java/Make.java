@@ -24,30 +24,32 @@ final class Make {
         return a;
     }
 
-    /** Many empty arrays, up to a number of arrays in all. */
+    // Each of these ends after as many calls as are needed, whatever the calls answer.
+
+    /** Empty arrays, up to a number of arrays in all. */
     static void upToArrays(DecisionArrays x, int arrays) {
-        while (x.count(0) < arrays) {
+        for (int more = arrays - x.count(0); more > 0; more--) {
             x.array(4, 0);
         }
     }
 
     /** Arrays as long as can be, up to a number of elements in all. */
     static void upToElements(DecisionArrays x, int elements) {
-        for (int left = elements - x.count(1); left > 0; left = elements - x.count(1)) {
-            x.array(4, Math.min(left, 200));
+        for (int more = elements - x.count(1); more > 0; more -= 200) {
+            x.array(4, Math.min(more, 200));
         }
     }
 
-    /** DECISIONS over the elements of one array, from its first place on, up to a number of them in all. */
-    static void upToDecisions(DecisionArrays x, int a, int decisions) {
-        for (int i = 0; x.count(2) < decisions; i++) {
+    /** DECISIONS over the elements of one array, from its first place on. */
+    static void decisions(DecisionArrays x, int a, int decisions) {
+        for (int i = 0; i < decisions; i++) {
             x.decide(a, i, 0, 0, 0);
         }
     }
 
     /** RULES of no weight. */
-    static void upToRules(DecisionArrays x, int a, int rules) {
-        while (x.count(3) < rules) {
+    static void rules(DecisionArrays x, int a, int rules) {
+        for (int r = 0; r < rules; r++) {
             x.rule(0, a, 0, 0, 0);
         }
     }

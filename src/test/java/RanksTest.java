@@ -115,13 +115,13 @@ public final class RanksTest {
 
     private static DecisionArrays allDecisions() {
         DecisionArrays x = some();
-        Make.upToDecisions(x, x.array(4, 24), 24);
+        Make.decisions(x, x.array(4, 24), 24);
         return x;
     }
 
     private static DecisionArrays allRules() {
         DecisionArrays x = some();
-        Make.upToRules(x, INTS, 12);
+        Make.rules(x, INTS, 12);
         return x;
     }
 
@@ -139,7 +139,7 @@ public final class RanksTest {
     private static DecisionArrays tooManyWays() {
         DecisionArrays x = new DecisionArrays();
         int a = x.array(4, 4);
-        Make.upToDecisions(x, a, 4);
+        Make.decisions(x, a, 4);
         x.span(0, 1, 3, 1);
         x.span(1, 1, 16, 1);
         x.span(2, 1, 16, 1);
